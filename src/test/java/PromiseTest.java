@@ -6,29 +6,7 @@ import java.util.Collections;
 import java.util.List;
 
 /** What the document says, promise by promise: ordinary inputs, edges and wrong inputs. */
-public final class PromiseTest {
-    private static final int VARIABLE = 0;
-    private static final int LAMBDA = 1;
-    private static final int APPLY = 2;
-    private static final int DELAY = 3;
-    private static final int FORCE = 4;
-    private static final int ERROR = 5;
-    private static final int BUILTIN = 6;
-    private static final int INTEGER = 7;
-    private static final int TRUTH = 9;
-    private static final int UNIT = 10;
-    private static final int EMPTY = 11;
-
-    private static final long MIN = Long.MIN_VALUE;
-    private static final long MAX = Long.MAX_VALUE;
-
-    private static int wrong = 0;
-    private static CekMachine x = new CekMachine();
-
-    private interface Call {
-        long answer();
-    }
-
+public final class PromiseTest extends TestKit {
     public static void main(String[] args) {
         face();
         newObject();
@@ -58,251 +36,46 @@ public final class PromiseTest {
         look();
         resultOutlivesItsTerm();
         refusalsChangeNothing();
-        System.out.println(wrong == 0 ? "all answers are as due" : wrong + " answers are not as due");
-        if (wrong != 0) {
-            System.exit(1);
-        }
-    }
-
-    // ---- how the tests speak ----
-
-    private static void due(String what, long got, long want) {
-        if (got != want) {
-            wrong++;
-            StackTraceElement[] trace = new Throwable().getStackTrace();
-            int line = 0;
-            for (StackTraceElement e : trace) {
-                if (e.getClassName().equals("PromiseTest") && !e.getMethodName().equals("main")) {
-                    line = e.getLineNumber();
-                }
-            }
-            System.out.println(what + " answered " + got + ", due is " + want + " (line " + line + ")");
-        }
-    }
-
-    private static void due(String what, boolean got, boolean want) {
-        due(what, got ? 1 : 0, want ? 1 : 0);
-    }
-
-    private static void argumentThrows(String what, Call call) {
-        due(what + " (1: IllegalArgumentException)", thrown(call), 1);
-    }
-
-    private static void stateThrows(String what, Call call) {
-        due(what + " (2: IllegalStateException)", thrown(call), 2);
-    }
-
-    private static int thrown(Call call) {
-        try {
-            call.answer();
-            return 0;
-        } catch (RuntimeException e) {
-            return e.getClass() == IllegalArgumentException.class ? 1
-                    : e.getClass() == IllegalStateException.class ? 2 : 3;
-        }
-    }
-
-    private static void fresh() {
-        x = new CekMachine();
-    }
-
-    /** Pushes NODES: kind, arg, kind, arg .. */
-    private static void push(long... kindsAndArgs) {
-        for (int i = 0; i + 1 < kindsAndArgs.length; i += 2) {
-            x.node((int) kindsAndArgs[i], kindsAndArgs[i + 1]);
-        }
-    }
-
-    private static void pushText(String text) {
-        x.bytes(0, 0);
-        for (int i = 0; i < text.length(); i++) {
-            due("more", x.more(text.charAt(i), 1), true);
-        }
-    }
-
-    private interface Part {
-        void push();
-    }
-
-    private static Part integer(long n) {
-        return () -> push(INTEGER, n);
-    }
-
-    private static Part truth(int t) {
-        return () -> push(TRUTH, t);
-    }
-
-    private static Part text(String s) {
-        return () -> pushText(s);
-    }
-
-    private static Part unit() {
-        return () -> push(UNIT, 0);
-    }
-
-    private static Part empty() {
-        return () -> push(EMPTY, 0);
-    }
-
-    private static Part error() {
-        return () -> push(ERROR, 0);
-    }
-
-    private static Part variable(int i) {
-        return () -> push(VARIABLE, i);
-    }
-
-    private static Part lambda(Part body) {
-        return () -> {
-            body.push();
-            push(LAMBDA, 0);
-        };
-    }
-
-    private static Part delay(Part body) {
-        return () -> {
-            body.push();
-            push(DELAY, 0);
-        };
-    }
-
-    private static Part force(Part body) {
-        return () -> {
-            body.push();
-            push(FORCE, 0);
-        };
-    }
-
-    private static Part apply(Part function, Part... arguments) {
-        return () -> {
-            function.push();
-            for (Part argument : arguments) {
-                argument.push();
-                push(APPLY, 0);
-            }
-        };
-    }
-
-    private static Part builtin(int b, Part... arguments) {
-        return apply(() -> push(BUILTIN, b), arguments);
-    }
-
-    private static Part dataInteger(long n) {
-        return builtin(22, integer(n));
-    }
-
-    private static Part dataText(String s) {
-        return builtin(23, text(s));
-    }
-
-    private static Part list(Part... parts) {
-        Part list = empty();
-        for (int i = parts.length - 1; i >= 0; i--) {
-            list = builtin(28, parts[i], list);
-        }
-        return list;
-    }
-
-    private static Part constructor(long number, Part... fields) {
-        return builtin(21, integer(number), list(fields));
-    }
-
-    private static Part map(Part... keysAndValues) {
-        return builtin(30, list(keysAndValues));
-    }
-
-    private static int runOf(Part part) {
-        return runOf(part, 20000, 3000);
-    }
-
-    private static int runOf(Part part, int steps, int memory) {
-        x.clear();
-        part.push();
-        return x.run(steps, memory);
-    }
-
-    private static void comesTo(Part part, int kind, long number) {
-        due("run", runOf(part), 0);
-        due("kind", x.kind(), kind);
-        due("number", x.kind() == CekMachine.NONE ? -99 : x.number(), number);
-    }
-
-    private static void fails(Part part, int why) {
-        due("run", runOf(part), why);
-        due("kind", x.kind(), CekMachine.NONE);
-        stateThrows("number", () -> x.number());
-    }
-
-    private static void costs(int steps, int memory, int waiting) {
-        due("STEPS", x.look(4), steps);
-        due("MEMORY", x.look(5), memory);
-        due("WAITING", x.look(6), waiting);
-    }
-
-    private static void comesToBytes(Part part, String want) {
-        comesTo(part, 1, want.length());
-        for (int i = 0; i < want.length(); i++) {
-            due("byteAt", x.byteAt(i), want.charAt(i));
-        }
-        due("byteAt behind", x.byteAt(want.length()), -1);
-    }
-
-    private static String repeated(char c, int n) {
-        char[] chars = new char[n];
-        Arrays.fill(chars, c);
-        return new String(chars);
-    }
-
-    /** The result, DATA, as text, read by NODES. */
-    private static String shown() {
-        StringBuilder out = new StringBuilder();
-        for (int k = 0; x.data(k, 0) != CekMachine.NONE; k++) {
-            out.append(k == 0 ? "" : " ").append("cmlib".charAt(x.data(k, 0)));
-            if (x.data(k, 0) == 3) {
-                out.append(x.dataValue(k));
-            } else {
-                out.append(x.data(k, 1));
-            }
-            if (x.data(k, 0) == 0) {
-                out.append('#').append(x.data(k, 2));
-            }
-            for (int j = 0; x.dataByte(k, j) != CekMachine.NONE; j++) {
-                out.append(j == 0 ? ':' : '.').append(x.dataByte(k, j));
-            }
-            out.append('/').append(x.data(k, 3));
-        }
-        return out.toString();
-    }
-
-    private static void comesToData(Part part, String want) {
-        due("run", runOf(part), 0);
-        due("kind", x.kind(), 4);
-        if (!shown().equals(want)) {
-            due("DATA " + shown() + " for " + want, 0, 1);
-        }
+        finish();
     }
 
     // ---- the face ----
 
     private static void face() {
-        due("NONE", CekMachine.NONE, -1);
         List<String> members = new ArrayList<>();
-        List<Member> all = new ArrayList<>();
-        all.addAll(Arrays.asList(CekMachine.class.getDeclaredMethods()));
-        all.addAll(Arrays.asList(CekMachine.class.getDeclaredFields()));
+        add(members, CekMachine.class.getDeclaredMethods());
+        add(members, CekMachine.class.getDeclaredFields());
+        add(members, CekMachine.class.getDeclaredConstructors());
+        Collections.sort(members);
+        String argumentFirst = " throws IllegalArgumentException,IllegalStateException";
+        String stateFirst = " throws IllegalStateException,IllegalArgumentException";
+        List<String> want = Arrays.asList(
+                "public CekMachine()",
+                "public boolean drop()",
+                "public boolean more(long,int)",
+                "public int byteAt(int)",
+                "public int bytes(long,int)" + argumentFirst,
+                "public int data(int,int)",
+                "public int dataByte(int,int)",
+                "public int kind()",
+                "public int look(int)",
+                "public int node(int,long)" + argumentFirst,
+                "public int run(int,int)" + stateFirst,
+                "public long dataValue(int) throws IllegalStateException",
+                "public long number() throws IllegalStateException",
+                "public static final int NONE",
+                "public void clear()");
+        due("members", String.join("; ", members), String.join("; ", want));
+        due("class", Modifier.toString(CekMachine.class.getModifiers()), "public final");
+        due("NONE", CekMachine.NONE, -1);
+    }
+
+    private static void add(List<String> members, Member[] all) {
         for (Member m : all) {
             if (!Modifier.isPrivate(m.getModifiers()) && !m.isSynthetic()) {
-                members.add(m.getName());
+                members.add(m.toString().replace("java.lang.", "").replace("CekMachine.", ""));
             }
         }
-        Collections.sort(members);
-        String want = "[NONE, byteAt, bytes, clear, data, dataByte, dataValue, drop, kind, look,"
-                + " more, node, number, run]";
-        if (!members.toString().equals(want)) {
-            due("members " + members, 0, 1);
-        }
-        due("final", Modifier.isFinal(CekMachine.class.getModifiers()), true);
-        due("constructors", CekMachine.class.getDeclaredConstructors().length, 1);
     }
 
     // ---- promise 1 ----
@@ -1108,7 +881,7 @@ public final class PromiseTest {
         Call[] refused = {() -> x.node(8, 0), () -> x.node(VARIABLE, 0), () -> x.bytes(0, 9),
             () -> x.run(5, 5), () -> x.dataValue(0), () -> x.more(0, 1) ? 1 : 0, () -> x.byteAt(0)};
         for (Call call : refused) {
-            thrown(call);
+            told(call);
             due("TERMS", x.look(0), 2);
             due("NODES", x.look(1), 2);
             due("lacks", x.look(2), 4);

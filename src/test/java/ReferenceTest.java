@@ -8,34 +8,23 @@ import java.util.Random;
  * Compares CekMachine with a plain evaluator, written with objects and recursion and without a
  * thought for room, over made-up runs of at most 512 calls from fixed seeds.
  */
-public final class ReferenceTest {
+public final class ReferenceTest extends TestKit {
     private static final int RUNS = 3000;
     private static final int MOST_CALLS = 512;
 
-    private static int wrong = 0;
     private static final long[] answers = new long[7];
     private static final long[] kinds = new long[8];
 
     public static void main(String[] args) {
         int runs = args.length > 0 ? Integer.parseInt(args[0]) : RUNS;
-        for (int seed = 1; seed <= runs && wrong < 20; seed++) {
+        for (int seed = 1; seed <= runs && wrongSoFar() < 20; seed++) {
             new Driver(seed).drive();
         }
         System.out.println("answers 0 to 6: " + Arrays.toString(answers) + ", kinds: " + Arrays.toString(kinds));
-        for (long n : answers) {
-            if (n == 0) {
-                wrong++;
-                System.out.println("an answer of run never came up");
-            }
+        for (int answer = 0; answer < answers.length; answer++) {
+            due("whether run ever answered " + answer, answers[answer] > 0, true);
         }
-        System.out.println(wrong == 0 ? "all answers are as due" : wrong + " answers are not as due");
-        if (wrong != 0) {
-            System.exit(1);
-        }
-    }
-
-    private interface Call {
-        long answer();
+        finish();
     }
 
     // ---- the made-up calls ----
@@ -53,7 +42,7 @@ public final class ReferenceTest {
         }
 
         void drive() {
-            while (calls < MOST_CALLS - 230 && wrong < 20) {
+            while (calls < MOST_CALLS - 230 && wrongSoFar() < 20) {
                 if (random.nextInt(6) == 0) {
                     stray();
                 } else {
@@ -67,19 +56,10 @@ public final class ReferenceTest {
 
         void same(String what, Call got, Call want) {
             calls++;
-            String g = told(got);
-            String w = told(want);
-            if (!g.equals(w)) {
-                wrong++;
-                System.out.println("seed " + seed + ", call " + calls + ": " + what + " answered " + g + ", due is " + w);
-            }
-        }
-
-        String told(Call call) {
-            try {
-                return Long.toString(call.answer());
-            } catch (IllegalArgumentException | IllegalStateException e) {
-                return e.getClass().getSimpleName();
+            String answer = told(got);
+            String wanted = told(want);
+            if (!answer.equals(wanted)) {
+                due("seed " + seed + ", call " + calls + ": " + what, answer, wanted);
             }
         }
 
