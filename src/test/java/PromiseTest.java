@@ -638,6 +638,7 @@ public final class PromiseTest extends TestKit {
         Part three = apply(lambda(builtin(28, variable(1), builtin(28, variable(1), variable(1)))), half);
         comesTo(three, 4, 192);
         Part eight = nested(3, empty(), twice);
+        fresh();
         comesTo(builtin(28, eight, three), 4, 200);
         fails(builtin(28, builtin(28, empty(), eight), three), 3);
         comesTo(builtin(18, builtin(28, eight, three)), 0, 2);

@@ -25,6 +25,7 @@ public final class TermsBoundaryTest extends TestKit {
         depthOfWhatIsEmpty();
         builtinsOfTheLargestData();
         builtinsWithFewerValues();
+        sizeOfOthers();
         sizeOfBytes();
         sizeOfData();
         stepFirstOfAll();
@@ -336,6 +337,16 @@ public final class TermsBoundaryTest extends TestKit {
         return builtin(b, units);
     }
 
+    /** "The SIZE of a VALUE is 1", whatever it holds, but for BYTES and DATA. */
+    private static void sizeOfOthers() {
+        Part[] ones = {integer(MAX), truth(0), unit(), lambda(text(FULL)), delay(text(FULL)), builtin(13),
+            let(text(FULL), bytes -> lambda(bytes)), let(text(FULL), bytes -> delay(bytes)),
+            builtin(16, text(FULL), text(FULL))};
+        for (Part one : ones) {
+            sizeWhenChosenIs(one, 1);
+        }
+    }
+
     /** "of BYTES 1 and an eighth of how many they are, rounded down". */
     private static void sizeOfBytes() {
         for (int n = 0; n <= 64; n++) {
@@ -367,18 +378,29 @@ public final class TermsBoundaryTest extends TestKit {
         sizeIs(dataInteger(MIN), 1);
     }
 
-    /** What a VALUE costs as what a BUILTIN takes, and as its result. */
-    private static void sizeIs(Part part, int size) {
+    private static void sizeIs(Part data, int size) {
+        sizeWhenChosenIs(data, size);
+        fresh();
+        due("run", runOf(let(data, v -> unit())), 0);
+        int steps = x.look(4) - 1;
+        int memory = x.look(5);
+        due("run", runOf(let(data, v -> builtin(18, v))), 0);
+        due("STEPS", x.look(4) - steps, 3 + 1 + size);
+        due("MEMORY", x.look(5) - memory, 1 + 1);
+    }
+
+    /** What a VALUE costs where a BUILTIN takes it, and where it is the result. */
+    private static void sizeWhenChosenIs(Part part, int size) {
         fresh();
         due("run", runOf(let(part, v -> unit())), 0);
         int steps = x.look(4) - 1;
         int memory = x.look(5);
-        due("run", runOf(let(part, v -> builtin(18, v))), 0);
-        due("STEPS", x.look(4) - steps, 3 + 1 + size);
-        due("MEMORY", x.look(5) - memory, 1 + 1);
         due("run", runOf(let(part, v -> builtin(16, truth(1), v, unit()))), 0);
         due("STEPS", x.look(4) - steps, 7 + 1 + 1 + size + 1);
         due("MEMORY", x.look(5) - memory, 3 + size);
+        due("run", runOf(let(part, v -> builtin(16, truth(1), unit(), v))), 0);
+        due("STEPS", x.look(4) - steps, 7 + 1 + 1 + size + 1);
+        due("MEMORY", x.look(5) - memory, 3 + 1);
     }
 
     // ---- what NODES and CALLS cost ----
@@ -751,14 +773,13 @@ public final class TermsBoundaryTest extends TestKit {
 
     /** BYTES stay as they are up to the last MEMORY that there is for them. */
     private static void rowsOfBytesAllButFull() {
+        // 63 are the most BYTES for their SIZE: 352 times 63 bytes for 8 of MEMORY.
         String most = FULL.substring(1);
-        Part term = let(builtin(10, text(most.substring(0, 1))), join -> {
-            Part once = apply(join, text(most.substring(1)));
-            return doubled(5, repeatedly(8, once, part -> then(once, part)));
-        });
+        Part term = let(builtin(10, text("")), join ->
+                doubled(5, repeatedly(11, text(most), bytes -> apply(join, bytes))));
         fresh();
         comesToBytes(term, most);
-        due("MEMORY", x.look(5), 4 + 6 * 3 + 32 * (9 * 8 + 8 * 2) + 31 * 2);
+        due("MEMORY", x.look(5), 4 + 6 * 3 + 352 * 8 + 31 * 2);
         Part endless = let(fun(self -> then(builtin(10, text(FULL), text("")), apply(self, self))),
                 loop -> apply(loop, loop));
         failsWith(endless, ALL_STEPS, ALL_MEMORY, 5);
