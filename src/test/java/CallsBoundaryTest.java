@@ -23,6 +23,9 @@ public final class CallsBoundaryTest extends TestKit {
 
     private static final int PROBES = 5;
 
+    private static final ToLongFunction<CekMachine> DROP = m -> m.drop() ? 1 : 0;
+    private static final ToLongFunction<CekMachine> MORE = m -> m.more('c', 1) ? 1 : 0;
+
     public static void main(String[] args) {
         newObject();
         objectsApart();
@@ -157,13 +160,15 @@ public final class CallsBoundaryTest extends TestKit {
     }
 
     /** The call is refused as is due, and all is as if it had not been made. */
-    private static void refuses(String what, Consumer<CekMachine> state, ToLongFunction<CekMachine> call, String answer) {
+    private static void refuses(
+            String what, Consumer<CekMachine> state, ToLongFunction<CekMachine> call, String answer) {
         CekMachine machine = made(state);
         due(what, told(() -> call.applyAsLong(machine)), answer);
         due(what + ", and what can be seen then", seen(state, call), seen(state, null));
     }
 
-    private static CekMachine allows(String what, Consumer<CekMachine> state, ToLongFunction<CekMachine> call, long answer) {
+    private static CekMachine allows(
+            String what, Consumer<CekMachine> state, ToLongFunction<CekMachine> call, long answer) {
         CekMachine machine = made(state);
         due(what, told(() -> call.applyAsLong(machine)), Long.toString(answer));
         return machine;
@@ -190,8 +195,8 @@ public final class CallsBoundaryTest extends TestKit {
         for (int kind : new int[] {LAMBDA, APPLY, DELAY, FORCE}) {
             refuses("node " + kind, NEW, m -> m.node(kind, 0), STATE);
         }
-        refuses("more", NEW, m -> m.more(1, 1) ? 1 : 0, FALSE);
-        refuses("drop", NEW, m -> m.drop() ? 1 : 0, FALSE);
+        refuses("more", NEW, MORE, FALSE);
+        refuses("drop", NEW, DROP, FALSE);
         refuses("run", NEW, m -> m.run(1, 1), STATE);
         refuses("kind", NEW, m -> m.kind(), NOTHING);
         refuses("number", NEW, m -> m.number(), STATE);
@@ -460,11 +465,11 @@ public final class CallsBoundaryTest extends TestKit {
         Part[] others = {variable(1), lambda(text("a")), apply(text("a"), text("b")), delay(text("a")),
             force(text("a")), error(), builtin(10), integer(0), truth(1), unit(), empty()};
         for (Part other : others) {
-            refuses("more of a TERM that is no BYTES", pushed(text("ab"), other), m -> m.more('c', 1) ? 1 : 0, FALSE);
+            refuses("more of a TERM that is no BYTES", pushed(text("ab"), other), MORE, FALSE);
         }
-        refuses("more without a TERM", TWO_TERMS.andThen(m -> m.clear()), m -> m.more('c', 1) ? 1 : 0, FALSE);
-        refuses("more behind drop", pushed(unit(), text("ab")).andThen(m -> m.drop()), m -> m.more('c', 1) ? 1 : 0, FALSE);
-        allows("more of the BYTES below", pushed(text("ab"), unit()).andThen(m -> m.drop()), m -> m.more('c', 1) ? 1 : 0, 1);
+        refuses("more without a TERM", TWO_TERMS.andThen(m -> m.clear()), MORE, FALSE);
+        refuses("more behind drop", pushed(unit(), text("ab")).andThen(m -> m.drop()), MORE, FALSE);
+        allows("more of the BYTES below", pushed(text("ab"), unit()).andThen(m -> m.drop()), MORE, 1);
         CekMachine full = made(pushed(units(199)).andThen(pushed(text("ab"))));
         due("more with 200 NODES", full.more('c', 1), true);
         full.run(1, 0);
@@ -480,26 +485,26 @@ public final class CallsBoundaryTest extends TestKit {
 
     /** "false if there is none". */
     private static void dropOfNothing() {
-        refuses("drop of a new object", NEW, m -> m.drop() ? 1 : 0, FALSE);
-        refuses("drop behind clear", FULL_OF_TERMS.andThen(m -> m.clear()), m -> m.drop() ? 1 : 0, FALSE);
-        refuses("drop behind drop", ran(unit()).andThen(m -> m.drop()), m -> m.drop() ? 1 : 0, FALSE);
-        refuses("drop behind drop of 200 NODES", FULL_OF_ONE_TERM.andThen(m -> m.drop()), m -> m.drop() ? 1 : 0, FALSE);
+        refuses("drop of a new object", NEW, DROP, FALSE);
+        refuses("drop behind clear", FULL_OF_TERMS.andThen(m -> m.clear()), DROP, FALSE);
+        refuses("drop behind drop", ran(unit()).andThen(m -> m.drop()), DROP, FALSE);
+        refuses("drop behind drop of 200 NODES", FULL_OF_ONE_TERM.andThen(m -> m.drop()), DROP, FALSE);
     }
 
     /** "The last TERM goes: true". */
     private static void dropOfTheLast() {
-        CekMachine one = allows("drop of the only TERM", FULL_OF_ONE_TERM, m -> m.drop() ? 1 : 0, 1);
+        CekMachine one = allows("drop of the only TERM", FULL_OF_ONE_TERM, DROP, 1);
         due("TERMS", one.look(0), 0);
         due("NODES", one.look(1), 0);
         due("LAMBDAS that the last TERM lacks", one.look(2), NONE);
-        CekMachine many = allows("drop of one of 200", FULL_OF_TERMS, m -> m.drop() ? 1 : 0, 1);
+        CekMachine many = allows("drop of one of 200", FULL_OF_TERMS, DROP, 1);
         due("TERMS", many.look(0), 199);
         due("NODES", many.look(1), 199);
         Part[] lasts = {unit(), text(SIXTY_FOUR), lambda(variable(1)), apply(builtin(0, integer(1)), integer(2)),
             apply(delay(delay(unit())), apply(force(unit()), unit())), variable(200)};
         for (Part last : lasts) {
             Consumer<CekMachine> below = pushed(variable(7), apply(builtin(0, integer(40)), integer(2)));
-            due("what is left behind drop", seen(below.andThen(pushed(last)), m -> m.drop() ? 1 : 0), seen(below, null));
+            due("what is left behind drop", seen(below.andThen(pushed(last)), DROP), seen(below, null));
         }
     }
 
@@ -684,13 +689,15 @@ public final class CallsBoundaryTest extends TestKit {
     /** "numbered from the outermost, 0, on, then what is within it, .. of a pair the key first, ..". */
     private static void dataInTurn() {
         fresh();
-        comesToData(list(map(list(dataInteger(1)), constructor(2, dataInteger(3)), dataText("k"), map()), dataInteger(4)),
+        Part pairs = map(list(dataInteger(1)), constructor(2, dataInteger(3)), dataText("k"), map());
+        comesToData(list(pairs, dataInteger(4)),
                 "l2/4 m2/3 l1/2 i1/1 c1#2/2 i3/1 b1:107/1 m0/1 i4/1");
     }
 
     /** "IllegalStateException if there is none such." */
     private static void dataValueEnds() {
-        Consumer<CekMachine> state = ran(list(dataInteger(MIN), dataText("a"), constructor(5), map(), dataInteger(MAX)));
+        Consumer<CekMachine> state =
+                ran(list(dataInteger(MIN), dataText("a"), constructor(5), map(), dataInteger(MAX)));
         for (int k : new int[] {LEAST, -1, 0, 2, 3, 4, 6, 7, 200, GREATEST}) {
             refuses("dataValue " + k, state, m -> m.dataValue(k), STATE);
         }

@@ -939,6 +939,14 @@ public final class TermsBoundaryTest extends TestKit {
         bytesCompare(FULL, FULL, true, false);
         bytesCompare(short63 + "y", FULL, false, true);
         bytesCompare(FULL, short63 + "y", false, false);
+        // What stands behind a part of BYTES is none of it.
+        Part part = builtin(13, integer(1), integer(2), text("xabz"));
+        fresh();
+        comesTo(builtin(14, part, text("ab")), 2, 1);
+        comesTo(builtin(14, part, text("abz")), 2, 0);
+        comesTo(builtin(15, part, text("aba")), 2, 1);
+        comesTo(builtin(15, text("aba"), part), 2, 0);
+        comesTo(builtin(15, part, text("ab")), 2, 0);
     }
 
     private static void bytesCompare(String a, String b, boolean equal, boolean less) {
@@ -978,10 +986,31 @@ public final class TermsBoundaryTest extends TestKit {
                 comesTo(builtin(17, all[i], all[j]), 2, i == j ? 1 : 0);
             }
         }
-        fresh();
-        comesTo(builtin(17, dataText("abc"), builtin(23, builtin(13, integer(1), integer(3), text("xabcx")))), 2, 1);
-        comesTo(builtin(17, builtin(27, list(dataInteger(1), dataText("a"))), list(dataText("a"))), 2, 1);
-        comesTo(builtin(17, empty(), builtin(20, constructor(5))), 2, 1);
+        equalHoweverMade();
+    }
+
+    private static void equalHoweverMade() {
+        Part one = dataInteger(1);
+        Part two = dataText("ab");
+        Part both = list(one, two);
+        Part[][] equals = {
+            {both, builtin(31, map(one, two))},
+            {both, builtin(20, constructor(9, one, two))},
+            {both, builtin(27, list(empty(), one, two))},
+            {both, builtin(26, list(both, empty()))},
+            {empty(), builtin(20, constructor(5))},
+            {empty(), builtin(27, list(two))},
+            {empty(), builtin(31, map())},
+            {map(one, two), builtin(30, builtin(31, map(one, two)))},
+            {constructor(9, one, two), builtin(21, integer(9), builtin(31, map(one, two)))},
+            {one, builtin(22, builtin(24, one))},
+            {two, builtin(23, builtin(13, integer(1), integer(2), text("xabx")))},
+            {two, builtin(23, builtin(10, text("a"), text("b")))}};
+        for (Part[] pair : equals) {
+            fresh();
+            comesTo(builtin(17, pair[0], pair[1]), 2, 1);
+            comesTo(builtin(17, pair[1], pair[0]), 2, 1);
+        }
     }
 
     /** "a CONSTRUCTOR with a number 0 .. 127", "21 .. (none if the number is none ..)", 19 and 20. */
