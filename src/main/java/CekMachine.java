@@ -937,8 +937,50 @@ public final class CekMachine {
         private static final int TO_MAP = 30;
         private static final int MAP_TO_LIST = 31;
 
-        // The letters of DATA of one form, in the order of the forms' numbers.
-        private static final String FORM_LETTERS = "cmlnb";
+        // What a BUILTIN takes is a kind of VALUES, any of them, or DATA of one form.
+        private static final int ANY = 8;
+        private static final int DATA_OF_FORM = 9;
+        private static final int DATA_CONSTRUCTOR = DATA_OF_FORM + FORM_CONSTRUCTOR;
+        private static final int DATA_MAP = DATA_OF_FORM + FORM_MAP;
+        private static final int DATA_LIST = DATA_OF_FORM + FORM_LIST;
+        private static final int DATA_INTEGER = DATA_OF_FORM + FORM_INTEGER;
+        private static final int DATA_BYTES = DATA_OF_FORM + FORM_BYTES;
+
+        // A table, not texts: a text might be made anew whenever a BUILTIN is looked up.
+        private static final int[] TAKES = {
+            INTEGER, INTEGER, NONE, // SUM
+            INTEGER, INTEGER, NONE, // DIFFERENCE
+            INTEGER, INTEGER, NONE, // PRODUCT
+            INTEGER, INTEGER, NONE, // QUOTIENT_DOWN
+            INTEGER, INTEGER, NONE, // REMAINDER_DOWN
+            INTEGER, INTEGER, NONE, // QUOTIENT_TO_ZERO
+            INTEGER, INTEGER, NONE, // REMAINDER_TO_ZERO
+            INTEGER, INTEGER, NONE, // EQUAL
+            INTEGER, INTEGER, NONE, // LESS
+            INTEGER, INTEGER, NONE, // AT_MOST
+            BYTES, BYTES, NONE, // JOIN
+            BYTES, NONE, NONE, // HOW_MANY
+            BYTES, INTEGER, NONE, // BYTE
+            INTEGER, INTEGER, BYTES, // SLICE
+            BYTES, BYTES, NONE, // BYTES_EQUAL
+            BYTES, BYTES, NONE, // BYTES_LESS
+            TRUTH, ANY, ANY, // CHOOSE
+            DATA, DATA, NONE, // DATA_EQUAL
+            DATA, NONE, NONE, // FORM
+            DATA_CONSTRUCTOR, NONE, NONE, // CONSTRUCTOR_NUMBER
+            DATA_CONSTRUCTOR, NONE, NONE, // CONSTRUCTOR_FIELDS
+            INTEGER, DATA_LIST, NONE, // TO_CONSTRUCTOR
+            INTEGER, NONE, NONE, // INTEGER_TO_DATA
+            BYTES, NONE, NONE, // BYTES_TO_DATA
+            DATA_INTEGER, NONE, NONE, // DATA_TO_INTEGER
+            DATA_BYTES, NONE, NONE, // DATA_TO_BYTES
+            DATA_LIST, NONE, NONE, // FIRST
+            DATA_LIST, NONE, NONE, // REST
+            DATA, DATA_LIST, NONE, // PREPEND
+            DATA_LIST, NONE, NONE, // IS_EMPTY
+            DATA_LIST, NONE, NONE, // TO_MAP
+            DATA_MAP, NONE, NONE, // MAP_TO_LIST
+        };
 
         private final Values values;
         private final Meter meter;
@@ -950,52 +992,11 @@ public final class CekMachine {
             this.meter = meter;
         }
 
-        /**
-         * A letter for each VALUE that a BUILTIN takes: i INTEGER, s BYTES, t TRUTH, v any, d DATA,
-         * and DATA that are c a CONSTRUCTOR, m a MAP, l a LIST, n an INTEGER, b BYTES.
-         */
-        private static String takes(int builtin) {
-            switch (builtin) {
-                case JOIN:
-                case BYTES_EQUAL:
-                case BYTES_LESS:
-                    return "ss";
-                case HOW_MANY:
-                case BYTES_TO_DATA:
-                    return "s";
-                case BYTE:
-                    return "si";
-                case SLICE:
-                    return "iis";
-                case CHOOSE:
-                    return "tvv";
-                case DATA_EQUAL:
-                    return "dd";
-                case FORM:
-                    return "d";
-                case CONSTRUCTOR_NUMBER:
-                case CONSTRUCTOR_FIELDS:
-                    return "c";
-                case TO_CONSTRUCTOR:
-                    return "il";
-                case INTEGER_TO_DATA:
-                    return "i";
-                case DATA_TO_INTEGER:
-                    return "n";
-                case DATA_TO_BYTES:
-                    return "b";
-                case FIRST:
-                case REST:
-                case IS_EMPTY:
-                case TO_MAP:
-                    return "l";
-                case PREPEND:
-                    return "dl";
-                case MAP_TO_LIST:
-                    return "m";
-                default:
-                    return "ii";
-            }
+        /** What a BUILTIN takes behind i other VALUES; NONE if it takes no more. */
+        private static int takes(int builtin, int i) {
+            int place = builtin * MOST_ARGUMENTS + i;
+            boolean known = builtin >= 0 && builtin < COUNT && i >= 0 && i < MOST_ARGUMENTS;
+            return known && place < TAKES.length ? TAKES[place] : NONE;
         }
 
         void forget() {
@@ -1011,7 +1012,7 @@ public final class CekMachine {
         int take(int function, int argument) {
             int builtin = (int) values.numberOf(function);
             int before = values.givenTo(function);
-            if (before + 1 < takes(builtin).length()) {
+            if (takes(builtin, before + 1) != NONE) {
                 return meter.payMemory(1) ? values.ofBuiltin(builtin, argument, function) : NONE;
             }
             gather(function, argument, before);
@@ -1023,11 +1024,10 @@ public final class CekMachine {
         int perform() {
             int builtin = ready;
             ready = NONE;
-            String letters = takes(builtin);
-            if (!meter.paySteps(1 + sizeOfGiven(letters.length()))) {
+            if (!meter.paySteps(1 + sizeOfGiven(builtin))) {
                 return NONE;
             }
-            if (!allFit(letters)) {
+            if (!allFit(builtin)) {
                 meter.fail(FAIL_KIND);
                 return NONE;
             }
@@ -1061,42 +1061,30 @@ public final class CekMachine {
             }
         }
 
-        private int sizeOfGiven(int n) {
+        private int sizeOfGiven(int builtin) {
             int size = 0;
-            for (int i = 0; i < n && i < MOST_ARGUMENTS; i++) {
+            for (int i = 0; i < MOST_ARGUMENTS && takes(builtin, i) != NONE; i++) {
                 size += values.sizeOf(given[i]);
             }
             return size;
         }
 
-        private boolean allFit(String letters) {
-            for (int i = 0; i < letters.length() && i < MOST_ARGUMENTS; i++) {
-                if (!fits(letters.charAt(i), given[i])) {
+        private boolean allFit(int builtin) {
+            for (int i = 0; i < MOST_ARGUMENTS && takes(builtin, i) != NONE; i++) {
+                if (!fits(takes(builtin, i), given[i])) {
                     return false;
                 }
             }
             return true;
         }
 
-        private boolean fits(char letter, int value) {
+        private boolean fits(int taken, int value) {
             int kind = values.kindOf(value);
-            if (letter == 'v') {
-                return true;
-            }
-            if (letter == 'i') {
-                return kind == INTEGER;
-            }
-            if (letter == 's') {
-                return kind == BYTES;
-            }
-            if (letter == 't') {
-                return kind == TRUTH;
-            }
-            if (kind != DATA) {
-                return false;
+            if (taken < DATA_OF_FORM) {
+                return taken == ANY || taken == kind;
             }
             int form = values.data.formOf(values.rootOf(value));
-            return letter == 'd' || form == FORM_LETTERS.indexOf(letter);
+            return kind == DATA && form == taken - DATA_OF_FORM;
         }
 
         // Each of these answers the result, or NONE if there is no such result.
